@@ -283,7 +283,6 @@ public final class MarkupTokens {
             if (count < MOST) {
                 kinds[count] = kind;
                 starts[count] = used;
-                ends[count] = used;
                 marks[count] = 0;
                 firstAttributes[count] = attributesUsed;
                 attributeCounts[count] = 0;

@@ -8,6 +8,7 @@ public final class DataTest {
         endTag();
         markAndBogus();
         runs();
+        runsForgetTheRunBefore();
         CHECKS.end();
     }
 
@@ -49,10 +50,28 @@ public final class DataTest {
         CHECKS.cut("<!-x->", "{-x-}", "16@2");
         CHECKS.cut("<!doctyp>", "{doctyp}", "16@2");
         CHECKS.cut("<!DOCTYP", "{DOCTYP}", "16@2");
+        CHECKS.cut("<!xoctype>", "{xoctype}", "16@2");
         CHECKS.cut("<![CDATA[a]]>", "{[CDATA[a]]}", "16@2");
         CHECKS.cut("<!\0&amp;<a", "{[65533]&amp;<a}", "16@2 1@2");
         CHECKS.cut("<?", "{?}", "2@1");
         CHECKS.cut("<?\0A>", "{?[65533]A}", "2@1 1@2");
+    }
+
+    /** One object, one text behind the other. */
+    private static void runsForgetTheRunBefore() {
+        String[] texts = {
+            "<a b=c d/>", "<a>", "e", "</f>", "<!doctype>", "<!doctype g>", "<!--a<!--b-->",
+            "<!--abc--d-->", "<h i", "j", "<!doctype k l", "m<n o=p>", "<!--q", "&#0;", ""
+        };
+        MarkupTokens x = new MarkupTokens();
+        for (String text : texts) {
+            MarkupTokens fresh = Markup.read(text);
+            x.clear();
+            Markup.feed(x, text);
+            x.run();
+            CHECKS.same("tokens of " + text, Markup.tokens(x), Markup.tokens(fresh));
+            CHECKS.same("faults of " + text, Markup.faults(x), Markup.faults(fresh));
+        }
     }
 
     private static void runs() {

@@ -47,14 +47,18 @@ public final class ReferenceTest {
             String given = Markup.visible(Integer.parseInt(CLOSED[k + 1]));
             CHECKS.cut("&" + CLOSED[k] + ";", "\"" + given + "\"", "");
         }
-        CHECKS.cut("&apos", "\"&apos\"", "");
-        CHECKS.cut("&ne &le&num&euro", "\"&ne &le&num&euro\"", "");
+        String[] open = {"apos", "num", "hellip", "euro", "ne", "le", "par"};
+        for (String name : open) {
+            CHECKS.cut("&" + name, "\"&" + name + "\"", "");
+            CHECKS.cut("&" + name + " &" + name, "\"&" + name + " &" + name + "\"", "");
+        }
     }
 
     private static void longestNames() {
         CHECKS.cut("&notin;", "\"[8713]\"", "");
         CHECKS.cut("&notit;", "\"[172]it;\"", "25@4");
         CHECKS.cut("&notin", "\"[172]in\"", "25@4");
+        CHECKS.cut("&notni", "\"[172]ni\"", "25@4");
         CHECKS.cut("&copysr", "\"[169]sr\"", "25@5");
         CHECKS.cut("&timesb", "\"[215]b\"", "25@6");
         CHECKS.cut("&par", "\"&par\"", "");
@@ -70,6 +74,7 @@ public final class ReferenceTest {
         CHECKS.cut("&abc;d", "\"&abc;d\"", "26@4");
         CHECKS.cut("&Amp;", "\"&Amp;\"", "26@4");
         CHECKS.cut("&1z9;", "\"&1z9;\"", "26@4");
+        CHECKS.cut("&0Z;&A9;", "\"&0Z;&A9;\"", "26@3 26@7");
         CHECKS.cut("&abc&lt;", "\"&abc<\"", "");
         CHECKS.cut("&xamp;", "\"&xamp;\"", "26@5");
         CHECKS.cut("&abc<d>", "\"&abc\" | <d>", "");
@@ -79,6 +84,7 @@ public final class ReferenceTest {
         CHECKS.cut("<a b='&amp;&lt;'>", "<a b='&<'>", "");
         CHECKS.cut("<a b='&amp'>", "<a b='&'>", "25@10");
         CHECKS.cut("<a b='&ampx&amp=&amp1'>", "<a b='&ampx&amp=&amp1'>", "");
+        CHECKS.cut("<a b='&amp0&amp9&ampA&ampZ&ampa&ampz'>", "<a b='&amp0&amp9&ampA&ampZ&ampa&ampz'>", "");
         CHECKS.cut("<a b='&amp-'>", "<a b='&-'>", "25@10");
         CHECKS.cut("<a b=&amp>", "<a b='&'>", "25@9");
         CHECKS.cut("<a b=&ampz>", "<a b='&ampz'>", "");

@@ -9,6 +9,7 @@ public final class RoomTest {
         manyAttributes();
         manyFaults();
         manyCharacters();
+        manyRuns();
         anyCalls();
         CHECKS.end();
     }
@@ -65,6 +66,17 @@ public final class RoomTest {
         CHECKS.same("a value", Markup.read(filled("<n v='", "&", "'>")).size(0, 0, 1), 392);
         CHECKS.same("an attribute's name", Markup.read(filled("<n ", "\"", ">")).size(0, 0, 0), 396);
         CHECKS.same("a text", Markup.read(filled("", "<", "")).token(0, 1), 400);
+    }
+
+    private static void manyRuns() {
+        MarkupTokens x = Markup.read(filled("t", "<a b=c>", ""));
+        String tokens = Markup.tokens(x);
+        String faults = Markup.faults(x);
+        for (int k = 0; k < 20; k++) {
+            CHECKS.same("run() " + k, x.run(), 58);
+            CHECKS.same("tokens of run() " + k, Markup.tokens(x), tokens);
+            CHECKS.same("faults of run() " + k, Markup.faults(x), faults);
+        }
     }
 
     private static void anyCalls() {

@@ -10,6 +10,7 @@ public final class TextTest {
         takesTheOutAgain();
         refusesALongOut();
         readsBytesAsCharacters();
+        readsNothingBehindTheText();
         CHECKS.end();
     }
 
@@ -91,6 +92,17 @@ public final class TextTest {
         CHECKS.same("again() of 401", x.again(), MarkupTokens.FULL);
         CHECKS.same("the text is left alone", x.clear(), 81);
         CHECKS.same("the out is left alone", x.word(50), (long) 'b');
+    }
+
+    private static void readsNothingBehindTheText() {
+        MarkupTokens x = Markup.read("a\r\n");
+        x.clear();
+        Markup.feed(x, "a\r");
+        x.run();
+        CHECKS.same("a 13 before a 10 that was cleared", Markup.tokens(x), "\"a[10]\"");
+        MarkupTokens full = Markup.read("\r".repeat(400));
+        CHECKS.same("400 times 13", full.token(0, 1), 400);
+        CHECKS.same("the last 13", full.at(0, 399), 10);
     }
 
     private static void readsBytesAsCharacters() {
