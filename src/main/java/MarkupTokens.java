@@ -140,12 +140,8 @@ public final class MarkupTokens {
         return bytes;
     }
 
-    private static boolean isGreat(int c) {
-        return c >= 'A' && c <= 'Z';
-    }
-
     private static boolean isLetter(int c) {
-        return isGreat(c) || c >= 'a' && c <= 'z';
+        return c >= 'A' && c <= 'Z' || c >= 'a' && c <= 'z';
     }
 
     private static boolean isLetterOrDigit(int c) {
@@ -157,7 +153,7 @@ public final class MarkupTokens {
     }
 
     private static int lowered(int c) {
-        return isGreat(c) ? c + ('a' - 'A') : c;
+        return c >= 'A' && c <= 'Z' ? c + ('a' - 'A') : c;
     }
 
     /** The ways of the document, those of a reference, and OVER: nothing is read any more. */
