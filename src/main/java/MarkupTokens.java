@@ -1097,7 +1097,7 @@ public final class MarkupTokens {
         }
 
         Way startDash(int c) {
-            return c == '>' ? closedEarly() : dash(c);
+            return c == '>' ? closedEarly() : Way.COMMENTDASH;
         }
 
         Way inside(int c) {
