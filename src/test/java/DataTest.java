@@ -7,8 +7,6 @@ public final class DataTest {
         tag();
         endTag();
         markAndBogus();
-        runs();
-        runsForgetTheRunBefore();
         CHECKS.end();
     }
 
@@ -55,37 +53,5 @@ public final class DataTest {
         CHECKS.cut("<!\0&amp;<a", "{[65533]&amp;<a}", "16@2 1@2");
         CHECKS.cut("<?", "{?}", "2@1");
         CHECKS.cut("<?\0A>", "{?[65533]A}", "2@1 1@2");
-    }
-
-    /** One object, one text behind the other. */
-    private static void runsForgetTheRunBefore() {
-        String[] texts = {
-            "<a b=c d/>", "<a>", "e", "</f>", "<!doctype>", "<!doctype g>", "<!--a<!--b-->",
-            "<!--abc--d-->", "<h i", "j", "<!doctype k l", "m<n o=p>", "<!--q", "&#0;", ""
-        };
-        MarkupTokens x = new MarkupTokens();
-        for (String text : texts) {
-            MarkupTokens fresh = Markup.read(text);
-            x.clear();
-            Markup.feed(x, text);
-            x.run();
-            CHECKS.same("tokens of " + text, Markup.tokens(x), Markup.tokens(fresh));
-            CHECKS.same("faults of " + text, Markup.faults(x), Markup.faults(fresh));
-        }
-    }
-
-    private static void runs() {
-        MarkupTokens x = new MarkupTokens();
-        Markup.feed(x, "a<b c=d>");
-        CHECKS.same("run()", x.run(), 2);
-        CHECKS.same("run() again", x.run(), 2);
-        CHECKS.same("tokens", Markup.tokens(x), "\"a\" | <b c='d'>");
-        Markup.feed(x, "</b>");
-        CHECKS.same("tokens until the next run()", Markup.tokens(x), "\"a\" | <b c='d'>");
-        CHECKS.same("run() of more", x.run(), 3);
-        CHECKS.same("tokens of more", Markup.tokens(x), "\"a\" | <b c='d'> | </b>");
-        x.clear();
-        CHECKS.same("run() of nothing", x.run(), 0);
-        CHECKS.same("tokens of nothing", Markup.tokens(x), "");
     }
 }

@@ -12,6 +12,7 @@ public final class FaceTest {
         constants();
         methods();
         newObject();
+        emptyText();
         CHECKS.end();
     }
 
@@ -49,15 +50,27 @@ public final class FaceTest {
         CHECKS.same("the class is final", Modifier.isFinal(MarkupTokens.class.getModifiers()), true);
     }
 
+    /** An empty text, no tokens, an empty out: each call is the first of an object. */
     private static void newObject() {
+        CHECKS.same("clear()", new MarkupTokens().clear(), 0);
+        CHECKS.same("again()", new MarkupTokens().again(), 0);
+        CHECKS.same("run()", new MarkupTokens().run(), 0);
+        CHECKS.same("faults()", new MarkupTokens().faults(), 0);
+        CHECKS.same("fault(0, 0)", new MarkupTokens().fault(0, 0), MarkupTokens.BAD);
+        CHECKS.same("token(0, 0)", new MarkupTokens().token(0, 0), MarkupTokens.BAD);
+        CHECKS.same("at(0, 0)", new MarkupTokens().at(0, 0), MarkupTokens.BAD);
+        CHECKS.same("size(0, 0, 0)", new MarkupTokens().size(0, 0, 0), MarkupTokens.BAD);
+        CHECKS.same("part(0, 0, 0, 0)", new MarkupTokens().part(0, 0, 0, 0), MarkupTokens.BAD);
+        CHECKS.same("write()", new MarkupTokens().write(), 0);
+        CHECKS.same("word(0)", new MarkupTokens().word(0), 0L);
+        CHECKS.same("feed", new MarkupTokens().feed('a', 1), 1);
+    }
+
+    private static void emptyText() {
         MarkupTokens x = new MarkupTokens();
-        CHECKS.same("token(0, 0)", x.token(0, 0), MarkupTokens.BAD);
-        CHECKS.same("faults()", x.faults(), 0);
-        CHECKS.same("word(0)", x.word(0), 0L);
-        CHECKS.same("write()", x.write(), 0);
-        CHECKS.same("clear()", x.clear(), 0);
-        CHECKS.same("again()", x.again(), 0);
-        CHECKS.same("run()", x.run(), 0);
-        CHECKS.same("faults() of an empty text", x.faults(), 0);
+        CHECKS.same("run() of an empty text", x.run(), 0);
+        CHECKS.same("state of an empty text", Markup.state(x), " with  and 0 0 0 0 0 0 0 0");
+        CHECKS.same("write() of an empty text", x.write(), 0);
+        CHECKS.same("again() of an empty out", x.again(), 0);
     }
 }

@@ -1,4 +1,7 @@
-/** Feeds texts to an object and shows what it answers as strings that a test can compare. */
+/**
+ * Feeds texts to an object and shows what it answers as strings that a test can compare, with few
+ * calls: what an object answers behind its 512th one is free.
+ */
 final class Markup {
     private Markup() {
     }
@@ -59,7 +62,8 @@ final class Markup {
 
     private static String own(MarkupTokens x, int i) {
         StringBuilder shown = new StringBuilder();
-        for (int k = 0; k < x.token(i, 1); k++) {
+        int length = x.token(i, 1);
+        for (int k = 0; k < length; k++) {
             shown.append(visible(x.at(i, k)));
         }
         return shown.toString();
@@ -67,7 +71,8 @@ final class Markup {
 
     private static String attributes(MarkupTokens x, int i) {
         StringBuilder shown = new StringBuilder();
-        for (int a = 0; a < x.token(i, 3); a++) {
+        int count = x.token(i, 3);
+        for (int a = 0; a < count; a++) {
             shown.append(' ').append(part(x, i, a, 0)).append("='").append(part(x, i, a, 1)).append("'");
         }
         return shown.toString();
@@ -75,7 +80,8 @@ final class Markup {
 
     private static String part(MarkupTokens x, int i, int a, int what) {
         StringBuilder shown = new StringBuilder();
-        for (int k = 0; k < x.size(i, a, what); k++) {
+        int length = x.size(i, a, what);
+        for (int k = 0; k < length; k++) {
             shown.append(visible(x.part(i, a, what, k)));
         }
         return shown.toString();
@@ -84,7 +90,8 @@ final class Markup {
     /** Faults as code@place, in the order in which they were told. */
     static String faults(MarkupTokens x) {
         StringBuilder shown = new StringBuilder();
-        for (int k = 0; k < x.faults(); k++) {
+        int count = x.faults();
+        for (int k = 0; k < count; k++) {
             shown.append(k == 0 ? "" : " ").append(x.fault(k, 0)).append('@').append(x.fault(k, 1));
         }
         return shown.toString();
@@ -94,8 +101,21 @@ final class Markup {
     static String out(MarkupTokens x) {
         int length = x.write();
         StringBuilder shown = new StringBuilder();
-        for (int k = 0; k < length; k++) {
-            shown.append((char) (x.word(k / 8) >> (k % 8 * 8) & 255));
+        for (int i = 0; 8 * i < length; i++) {
+            long bytes = x.word(i);
+            for (int k = 0; k < 8 && 8 * i + k < length; k++) {
+                shown.append((char) (bytes >> (8 * k) & 255));
+            }
+        }
+        return shown.toString();
+    }
+
+    /** All that is told without a call that changes something: tokens, faults, and how the out begins. */
+    static String state(MarkupTokens x) {
+        StringBuilder shown = new StringBuilder();
+        shown.append(tokens(x)).append(" with ").append(faults(x)).append(" and");
+        for (int i = 0; i < 8; i++) {
+            shown.append(' ').append(Long.toHexString(x.word(i)));
         }
         return shown.toString();
     }

@@ -1,57 +1,14 @@
-/** Promise 5: references in texts and in values. */
+/** Promise 5: references in texts and in values; NameTest and NumberTest have each one. */
 public final class ReferenceTest {
     private static final Checks CHECKS = new Checks();
 
-    private static final String[] FREE = {
-        "amp", "38", "AMP", "38", "lt", "60", "LT", "60", "gt", "62", "GT", "62", "quot", "34",
-        "QUOT", "34", "nbsp", "160", "copy", "169", "COPY", "169", "reg", "174", "REG", "174",
-        "not", "172", "shy", "173", "yen", "165", "deg", "176", "times", "215", "para", "182",
-        "sup2", "178", "frac12", "189"
-    };
-    private static final String[] CLOSED = {
-        "apos", "39", "num", "35", "notin", "8713", "notni", "8716", "timesb", "8864",
-        "copysr", "8471", "hellip", "8230", "euro", "8364", "ne", "8800", "le", "8804", "par", "8741"
-    };
-    private static final int[] REPLACED = {
-        128, 8364, 130, 8218, 131, 402, 132, 8222, 133, 8230, 134, 8224, 135, 8225, 136, 710,
-        137, 8240, 138, 352, 139, 8249, 140, 338, 142, 381, 145, 8216, 146, 8217, 147, 8220,
-        148, 8221, 149, 8226, 150, 8211, 151, 8212, 152, 732, 153, 8482, 154, 353, 155, 8250,
-        156, 339, 158, 382, 159, 376
-    };
-
     public static void main(String[] args) {
-        freeNames();
-        closedNames();
         longestNames();
         noNames();
         namesInValues();
         digits();
-        numbersWithFaults();
-        controls();
         otherCharacters();
         CHECKS.end();
-    }
-
-    private static void freeNames() {
-        for (int k = 0; k < FREE.length; k += 2) {
-            String name = FREE[k];
-            String given = Markup.visible(Integer.parseInt(FREE[k + 1]));
-            CHECKS.cut("&" + name + ";x", "\"" + given + "x\"", "");
-            CHECKS.cut("&" + name, "\"" + given + "\"", "25@" + (name.length() + 1));
-            CHECKS.cut("&" + name + " ", "\"" + given + " \"", "25@" + (name.length() + 1));
-        }
-    }
-
-    private static void closedNames() {
-        for (int k = 0; k < CLOSED.length; k += 2) {
-            String given = Markup.visible(Integer.parseInt(CLOSED[k + 1]));
-            CHECKS.cut("&" + CLOSED[k] + ";", "\"" + given + "\"", "");
-        }
-        String[] open = {"apos", "num", "hellip", "euro", "ne", "le", "par"};
-        for (String name : open) {
-            CHECKS.cut("&" + name, "\"&" + name + "\"", "");
-            CHECKS.cut("&" + name + " &" + name, "\"&" + name + " &" + name + "\"", "");
-        }
     }
 
     private static void longestNames() {
@@ -117,35 +74,6 @@ public final class ReferenceTest {
         CHECKS.cut("<a b='&#65x'>", "<a b='Ax'>", "25@10");
         CHECKS.cut("<a b=&#65>", "<a b='A'>", "25@9");
         CHECKS.cut("<a b=&#>", "<a b='&#'>", "27@7");
-    }
-
-    private static void numbersWithFaults() {
-        CHECKS.cut("&#0;", "\"[65533]\"", "28@4");
-        CHECKS.cut("&#x0", "\"[65533]\"", "25@4 28@4");
-        CHECKS.cut("&#0\0", "\"[65533][0]\"", "25@3 28@3 1@3");
-        CHECKS.cut("&#1114111;", "\"[1114111]\"", "31@10");
-        CHECKS.cut("&#1114112;", "\"[65533]\"", "29@10");
-        CHECKS.cut("&#x10FFFD;", "\"[1114109]\"", "");
-        CHECKS.cut("&#x110000;", "\"[65533]\"", "29@10");
-        CHECKS.cut("&#4294967361;&#x100000041;", "\"[65533][65533]\"", "29@13 29@26");
-        CHECKS.cut("&#" + "9".repeat(390) + ";", "\"[65533]\"", "29@393");
-        CHECKS.cut("&#55295;&#55296;&#57343;&#57344;", "\"[55295][65533][65533][57344]\"", "30@16 30@24");
-        CHECKS.cut("&#64975;&#64976;&#65007;&#65008;", "\"[64975][64976][65007][65008]\"", "31@16 31@24");
-        CHECKS.cut("&#65533;&#65534;&#65535;&#65536;", "\"[65533][65534][65535][65536]\"", "31@16 31@24");
-        CHECKS.cut("&#x1FFFD;&#x1FFFE;&#x1FFFF;", "\"[131069][131070][131071]\"", "31@18 31@27");
-    }
-
-    private static void controls() {
-        for (int number = 1; number < 300; number++) {
-            int given = number;
-            for (int k = 0; k < REPLACED.length; k += 2) {
-                given = REPLACED[k] == number ? REPLACED[k + 1] : given;
-            }
-            String text = "&#" + number + ";";
-            boolean blank = number == 9 || number == 10 || number == 12;
-            boolean odd = number < 32 && !blank || number >= 127 && number <= 159;
-            CHECKS.cut(text, "\"" + Markup.visible(given) + "\"", odd ? "32@" + text.length() : "");
-        }
     }
 
     private static void otherCharacters() {

@@ -1,16 +1,16 @@
-import java.util.Random;
+import com.sun.management.ThreadMXBean;
+import java.lang.management.ManagementFactory;
 
-/** Texts of 400 bytes that need the most room, and any calls in any order. */
+/** Texts of 400 bytes that need the most room, and how much room objects and calls take. */
 public final class RoomTest {
     private static final Checks CHECKS = new Checks();
 
     public static void main(String[] args) {
         manyTokens();
         manyAttributes();
-        manyFaults();
         manyCharacters();
-        manyRuns();
-        anyCalls();
+        objectsAreSmall();
+        callsMakeNothing();
         CHECKS.end();
     }
 
@@ -26,11 +26,9 @@ public final class RoomTest {
         MarkupTokens x = Markup.read(filled("", "a<!>", ""));
         CHECKS.same("tokens of a<!>..", x.run(), 200);
         CHECKS.same("at(198, 0)", x.at(198, 0), (int) 'a');
-        CHECKS.same("token(199, 0)", x.token(199, 0), MarkupTokens.COMMENT);
-        CHECKS.same("token(200, 0)", x.token(200, 0), MarkupTokens.BAD);
-        CHECKS.same("write()", x.write(), 800);
         MarkupTokens tags = Markup.read(filled("", "<b>", "c"));
         CHECKS.same("tokens of <b>..", tags.run(), 134);
+        CHECKS.same("at(133, 0)", tags.at(133, 0), (int) 'c');
         MarkupTokens doctypes = Markup.read(filled("", "<!doctype>", ""));
         CHECKS.same("tokens of <!doctype>..", doctypes.run(), 40);
         CHECKS.same("write() of <!doctype>..", doctypes.write(), 400);
@@ -49,70 +47,53 @@ public final class RoomTest {
         CHECKS.same("part(79, 0, 0, 0)", many.part(79, 0, 0, 0), (int) 'b');
     }
 
-    private static void manyFaults() {
-        MarkupTokens x = Markup.read(filled("<a", "/\"", ""));
-        // Each / but the first leaves the name; all names but the first stood before.
-        CHECKS.same("faults()", x.faults(), 199 * 2 + 198 + 1);
-        CHECKS.same("the last fault", x.fault(x.faults() - 1, 0), 6);
-        CHECKS.same("its place", x.fault(x.faults() - 1, 1), 400);
-        CHECKS.same("fault behind the last", x.fault(x.faults(), 0), MarkupTokens.BAD);
-        MarkupTokens numbers = Markup.read(filled("<a b=", "&#0", ">"));
-        CHECKS.same("faults() of &#0..", numbers.faults(), 131 * 2);
-    }
-
     private static void manyCharacters() {
         CHECKS.same("a comment", Markup.read(filled("<!--", "-", "")).token(0, 1), 394);
         CHECKS.same("a name", Markup.read(filled("<", "n", ">")).token(0, 1), 398);
         CHECKS.same("a value", Markup.read(filled("<n v='", "&", "'>")).size(0, 0, 1), 392);
         CHECKS.same("an attribute's name", Markup.read(filled("<n ", "\"", ">")).size(0, 0, 0), 396);
         CHECKS.same("a text", Markup.read(filled("", "<", "")).token(0, 1), 400);
+        CHECKS.same("a doctype's name", Markup.read(filled("<!doctype", "n", ">")).token(0, 1), 390);
     }
 
-    private static void manyRuns() {
-        MarkupTokens x = Markup.read(filled("t", "<a b=c>", ""));
-        String tokens = Markup.tokens(x);
-        String faults = Markup.faults(x);
-        for (int k = 0; k < 20; k++) {
-            CHECKS.same("run() " + k, x.run(), 58);
-            CHECKS.same("tokens of run() " + k, Markup.tokens(x), tokens);
-            CHECKS.same("faults of run() " + k, Markup.faults(x), faults);
-        }
+    private static long allocated() {
+        return ((ThreadMXBean) ManagementFactory.getThreadMXBean()).getCurrentThreadAllocatedBytes();
     }
 
-    private static void anyCalls() {
-        Random random = new Random(512);
-        for (int object = 0; object < 200; object++) {
-            MarkupTokens x = new MarkupTokens();
-            for (int call = 0; call < 512; call++) {
-                anyCall(x, random);
-            }
+    private static void objectsAreSmall() {
+        new MarkupTokens();
+        long before = allocated();
+        for (int k = 0; k < 100; k++) {
+            new MarkupTokens();
         }
+        long each = (allocated() - before) / 100;
+        // Some 10,000 elements of at most four bytes: 500 objects fit well into the room.
+        CHECKS.same("an object of " + each + " bytes is small", each < 50000, true);
     }
 
-    private static int any(Random random) {
-        return random.nextInt(4) == 0 ? random.nextInt() : random.nextInt(12) - 2;
+    /** A run's room is shared by all its calls, so they use the rows that the constructor made. */
+    private static void callsMakeNothing() {
+        MarkupTokens x = Markup.read("a&amp&#0;<b c=d e='&lt;'/></f><!--g--><!doctype h i>");
+        callAll(x);
+        long before = allocated();
+        for (int k = 0; k < 30; k++) {
+            callAll(x);
+        }
+        long made = allocated() - before;
+        CHECKS.same("calls that make " + made + " bytes make nothing", made < 10000, true);
     }
 
-    /** An exception would end this test with an exit code that is not 0. */
-    private static void anyCall(MarkupTokens x, Random random) {
-        String pieces = "<<<>>>aab=\"'&#0;/!-- \0";
-        StringBuilder eight = new StringBuilder();
-        for (int k = 0; k < 8; k++) {
-            eight.append(pieces.charAt(random.nextInt(pieces.length())));
-        }
-        switch (random.nextInt(16)) {
-            case 0: x.clear(); break;
-            case 1: x.again(); break;
-            case 2: x.run(); break;
-            case 3: x.token(any(random), any(random)); break;
-            case 4: x.at(any(random), any(random)); break;
-            case 5: x.size(any(random), any(random), any(random)); break;
-            case 6: x.part(any(random), any(random), any(random), any(random)); break;
-            case 7: x.faults(); break;
-            case 8: x.fault(any(random), any(random)); break;
-            case 9: x.write(); break;
-            case 10: x.word(any(random)); break;
-            default: x.feed(Markup.bytes(eight.toString()), any(random)); break;
-        }
+    private static void callAll(MarkupTokens x) {
+        x.feed('a', 1);
+        x.run();
+        x.token(1, 0);
+        x.at(1, 0);
+        x.size(1, 0, 0);
+        x.part(1, 0, 0, 0);
+        x.faults();
+        x.fault(0, 0);
+        x.write();
+        x.word(0);
+        x.again();
     }
 }
