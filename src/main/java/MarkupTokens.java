@@ -204,8 +204,8 @@ public final class MarkupTokens {
             return place;
         }
 
-        void skip(int characters) {
-            place = Math.min(place + characters, count);
+        void skip(int howMany) {
+            place = Math.min(place + howMany, count);
         }
 
         /** Reads c and goes on by the way; a way that is answered without this reads c again. */

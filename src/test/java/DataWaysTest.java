@@ -1,10 +1,10 @@
-/** The ways DATA, TAG, ENDTAG, MARK and BOGUS, each at every character and at END. */
+/** The ways DATA, TAG, ENDTAG, MARK and BOGUS, each at every character and at END, from wherever they are reached. */
 public final class DataWaysTest {
     private static final Checks CHECKS = new Checks();
 
     public static void main(String[] args) {
-        dataFirst();
         data();
+        dataBehindTokens();
         tag();
         endTag();
         mark();
@@ -18,21 +18,53 @@ public final class DataWaysTest {
         return new Step(CHECKS, before, behind);
     }
 
-    private static void dataFirst() {
-        way("", "")
-                .on("<", "\"<\"", "3@1")
-                .on("\0", "\"[0]\"", "1@0")
-                .end("", "")
-                .others("\"%c\"", "");
+    private static void data() {
+        data("", "", "\"", "");
+        data("x", "\"x\"", "\"x", "");
+        data("\0", "\"[0]\"", "\"[0]", "1@0 ");
+        data("& ", "\"& \"", "\"& ", "");
+        data("&zz.", "\"&zz.\"", "\"&zz.", "");
+        data("&amp;", "\"&\"", "\"&", "");
+        data("&#65;", "\"A\"", "\"A", "");
+        data("<1", "\"<1\"", "\"<1", "4@1 ");
+        data("</>", "", "\"", "5@2 ");
+        data("x</>", "\"x\"", "\"x", "5@3 ");
     }
 
-    private static void data() {
-        way("x", "y")
-                .on("&", "\"x&y\"", "")
-                .on("<", "\"x\"", "6@3")
-                .on("\0", "\"x[0]y\"", "1@1")
-                .end("\"x\"", "")
-                .others("\"x%cy\"", "");
+    /** Whatever ends a token, DATA comes next. */
+    private static void dataBehindTokens() {
+        dataBehind("<n>", "<n>", "");
+        dataBehind("<n/>", "<n/>", "");
+        dataBehind("</n>", "</n>", "");
+        dataBehind("<n a>", "<n a=''>", "");
+        dataBehind("<n a=>", "<n a=''>", "10@5 ");
+        dataBehind("<n a=v>", "<n a='v'>", "");
+        dataBehind("<n a='v'>", "<n a='v'>", "");
+        dataBehind("<!>", "{}", "16@2 ");
+        dataBehind("<!---->", "{}", "");
+        dataBehind("<!-->", "{}", "17@4 ");
+        dataBehind("<!--->", "{}", "17@5 ");
+        dataBehind("<!--c-->", "{c}", "");
+        dataBehind("<!--c--!>", "{c}", "20@8 ");
+        dataBehind("<!doctype>", "!?", "22@9 ");
+        dataBehind("<!doctype d>", "!d", "");
+        dataBehind("<!doctype d >", "!d", "");
+        dataBehind("<!doctype d o>", "!d?", "24@12 ");
+    }
+
+    private static void dataBehind(String before, String told, String faults) {
+        data(before, told, told + " | \"", faults);
+    }
+
+    /** What is told if the text ends there, and how the tokens go on if more of the text comes. */
+    private static void data(String before, String told, String open, String faults) {
+        int c = before.length();
+        way(before, "y")
+                .on("&", open + "&y\"", faults.trim())
+                .on("<", told, faults + "6@" + (c + 2))
+                .on("\0", open + "[0]y\"", faults + "1@" + c)
+                .end(told, faults.trim())
+                .others(open + "%cy\"", faults.trim());
     }
 
     private static void tag() {
@@ -96,10 +128,21 @@ public final class DataWaysTest {
     }
 
     private static void bogus() {
-        way("<?b", "e>")
-                .on(">", "{?b} | \"e>\"", "2@1")
-                .on("\0", "{?b[65533]e}", "2@1 1@3")
-                .end("{?b}", "2@1")
-                .others("{?b%ce}", "2@1");
+        bogus("<?", "?", "2@1");
+        bogus("<?b", "?b", "2@1");
+        bogus("</ ", " ", "4@2");
+        bogus("</&", "&", "4@2");
+        bogus("<!b", "b", "16@2");
+        bogus("<!b--", "b--", "16@2");
+        bogus("<!doctyp ", "doctyp ", "16@2");
+        bogus("<?\0", "?[65533]", "2@1 1@2");
+    }
+
+    private static void bogus(String before, String own, String told) {
+        way(before, "e>")
+                .on(">", "{" + own + "} | \"e>\"", told)
+                .on("\0", "{" + own + "[65533]e}", told + " 1@" + before.length())
+                .end("{" + own + "}", told)
+                .others("{" + own + "%ce}", told);
     }
 }
