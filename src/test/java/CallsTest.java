@@ -9,6 +9,7 @@ public final class CallsTest {
     public static void main(String[] args) {
         feedsToTheLast();
         runsToTheLast();
+        runsLeaveNothing();
         writesToTheLast();
         takesTheOutToTheLast();
         refusesToTheLast();
@@ -36,6 +37,32 @@ public final class CallsTest {
             CHECKS.same("run() as call " + call, x.run(), 1);
         }
         CHECKS.same("faults() as the last call", x.faults(), 394);
+    }
+
+    /** No run leaves anything behind, so the last one has as much room as the first one. */
+    private static void runsLeaveNothing() {
+        String[] texts = {
+            "<a b=cd>".repeat(50), "a<!>".repeat(100), "<b/>".repeat(100), "<!--c-->".repeat(50),
+            "<!doctype d>".repeat(33), "\0".repeat(400), "&#0".repeat(133), "<a" + "/b".repeat(199)
+        };
+        for (String text : texts) {
+            MarkupTokens first = Markup.read(text);
+            MarkupTokens last = Markup.read(text);
+            for (int call = 52; call < CALLS - 9; call++) {
+                last.run();
+            }
+            String shown = Markup.visible(text.substring(0, 12)) + "..";
+            int i = last.run() - 1;
+            CHECKS.same("run() of " + shown, i, first.run() - 1);
+            CHECKS.same("token(i, 0) of " + shown, last.token(i, 0), first.token(i, 0));
+            CHECKS.same("token(i, 1) of " + shown, last.token(i, 1), first.token(i, 1));
+            CHECKS.same("token(i, 3) of " + shown, last.token(i, 3), first.token(i, 3));
+            CHECKS.same("at(i, 0) of " + shown, last.at(i, 0), first.at(i, 0));
+            CHECKS.same("part(i, 0, 1, 1) of " + shown, last.part(i, 0, 1, 1), first.part(i, 0, 1, 1));
+            CHECKS.same("faults() of " + shown, last.faults(), first.faults());
+            CHECKS.same("write() of " + shown, last.write(), first.write());
+            CHECKS.same("word(40) of " + shown, last.word(40), first.word(40));
+        }
     }
 
     private static void writesToTheLast() {
