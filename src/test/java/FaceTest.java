@@ -1,7 +1,7 @@
-import java.lang.reflect.Constructor;
 import java.lang.reflect.Field;
 import java.lang.reflect.Method;
 import java.lang.reflect.Modifier;
+import java.util.Arrays;
 import java.util.TreeSet;
 
 /** The public face, its constants, and promise 1: a new object. */
@@ -11,6 +11,9 @@ public final class FaceTest {
     public static void main(String[] args) {
         constants();
         methods();
+        fields();
+        theClass();
+        namesInside();
         newObject();
         emptyText();
         CHECKS.end();
@@ -30,24 +33,72 @@ public final class FaceTest {
         TreeSet<String> seen = new TreeSet<>();
         for (Method method : MarkupTokens.class.getDeclaredMethods()) {
             if (!Modifier.isPrivate(method.getModifiers())) {
-                seen.add(method.getReturnType() + " " + method.getName() + "/" + method.getParameterCount());
+                seen.add(method.toString());
             }
         }
-        CHECKS.same("the methods that are not private", seen.toString(),
-                "[int again/0, int at/2, int clear/0, int fault/2, int faults/0, int feed/2, int part/4,"
-                + " int run/0, int size/3, int token/2, int write/0, long word/1]");
-        TreeSet<String> fields = new TreeSet<>();
+        CHECKS.same("the methods that are not private", String.join("\n", seen), String.join("\n",
+                "public int MarkupTokens.again()",
+                "public int MarkupTokens.at(int,int)",
+                "public int MarkupTokens.clear()",
+                "public int MarkupTokens.fault(int,int)",
+                "public int MarkupTokens.faults()",
+                "public int MarkupTokens.feed(long,int)",
+                "public int MarkupTokens.part(int,int,int,int)",
+                "public int MarkupTokens.run()",
+                "public int MarkupTokens.size(int,int,int)",
+                "public int MarkupTokens.token(int,int)",
+                "public int MarkupTokens.write()",
+                "public long MarkupTokens.word(int)"));
+    }
+
+    private static void fields() {
+        TreeSet<String> seen = new TreeSet<>();
         for (Field field : MarkupTokens.class.getDeclaredFields()) {
             if (!Modifier.isPrivate(field.getModifiers())) {
-                fields.add(field.getName());
+                seen.add(field.toString());
             }
         }
-        CHECKS.same("the fields that are not private", fields.toString(),
-                "[BAD, COMMENT, DOCTYPE, FULL, START, STOP, TEXT]");
-        Constructor<?>[] constructors = MarkupTokens.class.getDeclaredConstructors();
-        CHECKS.same("how many constructors", constructors.length, 1);
-        CHECKS.same("parameters of the constructor", constructors[0].getParameterCount(), 0);
-        CHECKS.same("the class is final", Modifier.isFinal(MarkupTokens.class.getModifiers()), true);
+        CHECKS.same("the fields that are not private", String.join("\n", seen), String.join("\n",
+                "public static final int MarkupTokens.BAD",
+                "public static final int MarkupTokens.COMMENT",
+                "public static final int MarkupTokens.DOCTYPE",
+                "public static final int MarkupTokens.FULL",
+                "public static final int MarkupTokens.START",
+                "public static final int MarkupTokens.STOP",
+                "public static final int MarkupTokens.TEXT"));
+    }
+
+    private static void theClass() {
+        CHECKS.same("the class", MarkupTokens.class.toGenericString(), "public final class MarkupTokens");
+        CHECKS.same("what it extends", MarkupTokens.class.getSuperclass(), Object.class);
+        CHECKS.same("how many interfaces it has", MarkupTokens.class.getInterfaces().length, 0);
+        CHECKS.same("its constructors", Arrays.toString(MarkupTokens.class.getDeclaredConstructors()),
+                "[public MarkupTokens()]");
+        for (Class<?> inside : MarkupTokens.class.getDeclaredClasses()) {
+            int modifiers = inside.getModifiers();
+            CHECKS.same(inside + " is static", Modifier.isStatic(modifiers), true);
+            CHECKS.same(inside + " is seen outside",
+                    Modifier.isPublic(modifiers) || Modifier.isProtected(modifiers), false);
+        }
+    }
+
+    /** A method inside that is named like one of the face would be taken for it. */
+    private static void namesInside() {
+        TreeSet<String> face = new TreeSet<>();
+        for (Method method : MarkupTokens.class.getMethods()) {
+            if (method.getDeclaringClass() == MarkupTokens.class) {
+                face.add(method.getName());
+            }
+        }
+        for (Method method : MarkupTokens.class.getDeclaredMethods()) {
+            boolean hidden = Modifier.isPrivate(method.getModifiers());
+            CHECKS.same(method + " has a name of the face", hidden && face.contains(method.getName()), false);
+        }
+        for (Class<?> inside : MarkupTokens.class.getDeclaredClasses()) {
+            for (Method method : inside.getDeclaredMethods()) {
+                CHECKS.same(method + " has a name of the face", face.contains(method.getName()), false);
+            }
+        }
     }
 
     /** An empty text, no tokens, an empty out: each call is the first of an object. */
